@@ -235,7 +235,10 @@ public final class CursorsTest {
             Check.due("remove in front", bench.remove(0), 1);
             Check.due("where it stands", bench.nextPlace(0), 1);
             Check.due("back", bench.previous(0), 10);
+            bench.open(1, row, VIEW, 0);
+            bench.open(2, 3, FORTH, 0);
             Check.due("remove the only one", bench.remove(0), 0);
+            Check.due("the other is gone", Shown.standing(bench), "0 2");
             Check.due("on over none", bench.next(0), NO_ELEMENT);
             Check.due("back over none", bench.previous(0), NO_ELEMENT);
         }

@@ -21,6 +21,7 @@ public final class ProgramsTest {
         textsThatEndTooEarly();
         outOfRange();
         firstErrors();
+        wholeTexts();
         everyByte();
         promise36();
         promise36Stops();
@@ -221,6 +222,30 @@ public final class ProgramsTest {
         error("2(s1000", 2, 3);
         error("1(1(1((", 1, 6);
         error("s1000-", 2, 1);
+    }
+
+    /** All 100 bytes are read, and none that stood there before the text was emptied. */
+    private static void wholeTexts() {
+        error("n".repeat(99) + "x", 1, 99);
+        error("n".repeat(99) + "s", 1, 100);
+        error(" ".repeat(98) + "n2", 1, 100);
+        right("np".repeat(50));
+        CursorBench bench = new CursorBench();
+        write(bench, "s5n2(n)");
+        write(bench, "s");
+        Check.due("the number is gone", bench.errorPlace(), 1);
+        write(bench, "s5n2");
+        Check.due("the bracket is gone", bench.errorPlace(), 4);
+        bench.example(0);
+        bench.example(1);
+        Check.due("the longer example is gone", bench.errorPlace(), CursorBench.NONE);
+        bench.clearText();
+        bench.type(' ');
+        Check.due("all is gone", bench.errorPlace(), CursorBench.NONE);
+        bench.fill(LINKED, 1, 1, 1);
+        bench.open(0, LINKED, LIST, 0);
+        write(bench, "np".repeat(50));
+        Check.due("100 moves", bench.play(0), 100);
     }
 
     /** Of all bytes, just those of the grammar can begin a program of one byte. */

@@ -235,6 +235,9 @@ public final class RowsTest {
         }
         bench.fill(CursorBench.ARRAY, 1, 1, 3);
         bench.fill(CursorBench.LINKED, 3, -1, 3);
+        bench.fill(CursorBench.DEQUE, 0, 2, 2);
+        bench.fill(CursorBench.SORTED, 1, 1, 2);
+        Check.due("the first one alone differs", bench.isSame(CursorBench.DEQUE, CursorBench.SORTED), false);
         Check.due("another order", bench.isSame(CursorBench.ARRAY, CursorBench.LINKED), false);
         for (int row : NO_ROWS) {
             Check.fails("isSame, no row", bench, NO_PLACE, () -> bench.isSame(row, 0));

@@ -53,6 +53,7 @@ public final class WholeRowsTest {
             Check.still("a rest that can't be", bench, 0, () -> bench.sieve(here, 3, 3));
             Check.still("a rest far above", bench, 0, () -> bench.sieve(here, 1, 99));
             Check.due("sieve one", bench.sieve(row, 100, 96), 1);
+            Check.due("the cursors are gone for one", Shown.standing(bench), "1");
             Check.due("what is left", Shown.row(bench, row), "[-3, -1, 0, 2, 3, 5]");
             Check.due("sieve all", bench.sieve(row, 1, 0), 6);
             Check.due("what is left", Shown.row(bench, row), "[]");
@@ -92,6 +93,10 @@ public final class WholeRowsTest {
             Check.due("the cursors of the row are gone", Shown.standing(bench), "1");
             bench.open(0, row, FORTH, 0);
             Check.still("unlike none", bench, 0, () -> bench.unlike(here));
+            put(bench, row, 4, 2, 2);
+            bench.open(0, row, FORTH, 0);
+            Check.due("unlike one", bench.unlike(row), 1);
+            Check.due("the cursors are gone for one", Shown.standing(bench), "1");
             bench.fill(row, 6, 0, 40);
             Check.due("unlike all", bench.unlike(row), 39);
             Check.due("what is left", Shown.row(bench, row), "[6]");
@@ -150,6 +155,10 @@ public final class WholeRowsTest {
             Check.due("twice", bench.twice(row), 6);
             Check.due("doubled", Shown.row(bench, row), "[3, 3, 1, 1, 2, 2]");
             Check.due("the cursors of the row are gone", Shown.standing(bench), "1");
+            put(bench, row, 8);
+            bench.open(0, row, VIEW, 1);
+            Check.due("twice one", bench.twice(row), 2);
+            Check.due("the cursors are gone for one", Shown.standing(bench), "1");
             bench.fill(row, 1, 1, 20);
             Check.due("twice 20", bench.twice(row), 40);
             Check.due("the last", bench.at(row, 38) + bench.at(row, 39), 40);
