@@ -242,7 +242,7 @@ public final class CursorBench {
                 target.takeOut(place);
             }
         }
-        return lostSince(target, before);
+        return loseCursorsIfFewer(target, before);
     }
 
     public int unlike(int row) throws IndexOutOfBoundsException {
@@ -254,7 +254,7 @@ public final class CursorBench {
                 target.takeOut(place);
             }
         }
-        return lostSince(target, before);
+        return loseCursorsIfFewer(target, before);
     }
 
     public int turn(int row) throws IndexOutOfBoundsException, IllegalArgumentException {
@@ -480,7 +480,7 @@ public final class CursorBench {
         }
     }
 
-    private int lostSince(Row row, int before) {
+    private int loseCursorsIfFewer(Row row, int before) {
         int lost = before - row.count;
         if (lost > 0) {
             loseCursors(row, null);
