@@ -9,8 +9,18 @@ final class Check {
 
     private static int checks = 0;
     private static int wrong = 0;
+    private static String about = "";
 
     private Check() {
+    }
+
+    /** What the checks that follow are about: told with each one that fails. */
+    static void about(String what) {
+        about = what;
+    }
+
+    static int count() {
+        return checks;
     }
 
     /** The answer must be the one that is due: of the same type too. */
@@ -18,22 +28,22 @@ final class Check {
         checks++;
         if (!Objects.equals(got, want)) {
             wrong++;
-            System.out.println(what + ": got " + got + ", due is " + want);
+            System.out.println(about + what + ": got " + got + ", due is " + want);
         }
     }
 
     /** The call must throw just this class, by a throw of the program, and change nothing. */
     static void fails(String what, CursorBench bench, Class<? extends RuntimeException> want, Call call) {
-        String before = Shown.all(bench);
+        String before = Shown.brief(bench);
         due(what, answer(call), "throws " + want.getName());
-        due(what + " changes nothing", Shown.all(bench), before);
+        due(what + " changes nothing", Shown.brief(bench), before);
     }
 
     /** The call must answer so, and change nothing that can be seen. */
     static void still(String what, CursorBench bench, Object want, Call call) {
-        String before = Shown.all(bench);
+        String before = Shown.brief(bench);
         due(what, answer(call), want);
-        due(what + " changes nothing", Shown.all(bench), before);
+        due(what + " changes nothing", Shown.brief(bench), before);
     }
 
     /** What a call answers: what it returns, or "throws " and the class of its exception. */

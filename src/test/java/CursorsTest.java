@@ -1,21 +1,5 @@
 /** Promises 10 to 24: cursors in their slots. */
-public final class CursorsTest {
-    private static final Class<IndexOutOfBoundsException> NO_PLACE = IndexOutOfBoundsException.class;
-    private static final Class<IllegalArgumentException> BAD = IllegalArgumentException.class;
-    private static final Class<IllegalStateException> STATE = IllegalStateException.class;
-    private static final int[] NO_SLOTS = {-1, 5, Integer.MIN_VALUE, Integer.MAX_VALUE};
-    private static final int ARRAY = CursorBench.ARRAY;
-    private static final int LINKED = CursorBench.LINKED;
-    private static final int SORTED = CursorBench.SORTED;
-    private static final int DEQUE = CursorBench.DEQUE;
-    private static final int LIST = CursorBench.LIST;
-    private static final int VIEW = CursorBench.VIEW;
-    private static final int FORTH = CursorBench.FORTH;
-    private static final int BACK = CursorBench.BACK;
-    private static final int NO_ELEMENT = CursorBench.NO_ELEMENT;
-    private static final int NO_STATE = CursorBench.NO_STATE;
-    private static final int UNSUPPORTED = CursorBench.UNSUPPORTED;
-
+public final class CursorsTest extends Names {
     public static void main(String[] args) {
         promise10();
         promise10Refused();
@@ -44,18 +28,16 @@ public final class CursorsTest {
         return bench;
     }
 
-    private static boolean isKind(int row, int kind) {
-        switch (kind) {
-            case 0: case 1: return row < 2;
-            case 2: return true;
-            case 3: return row == 1 || row == 3;
-            default: return false;
-        }
+    /** The same with three numbers, and a cursor in slot 0. */
+    private static CursorBench withCursor(int row, int kind, int place) {
+        CursorBench bench = filled(3);
+        bench.open(0, row, kind, place);
+        return bench;
     }
 
     private static void promise10() {
-        CursorBench bench = filled(3);
         for (int row = 0; row < Shown.ROWS; row++) {
+            CursorBench bench = filled(3);
             for (int kind = -1; kind <= 4; kind++) {
                 int here = row;
                 int asked = kind;
@@ -69,6 +51,7 @@ public final class CursorsTest {
                 }
             }
         }
+        CursorBench bench = filled(3);
         for (int place = 0; place <= 3; place++) {
             Check.due("open LIST within", bench.open(place, ARRAY, LIST, place), 3 - place);
             Check.due("its place", bench.nextPlace(place), place);
@@ -83,18 +66,19 @@ public final class CursorsTest {
     }
 
     private static void promise10Refused() {
-        CursorBench bench = filled(3);
-        bench.open(0, LINKED, LIST, 2);
         for (int slot : NO_SLOTS) {
+            CursorBench bench = withCursor(LINKED, LIST, 2);
             Check.fails("open, no slot", bench, NO_PLACE, () -> bench.open(slot, 0, 9, 0));
             Check.fails("open, no row", bench, NO_PLACE, () -> bench.open(0, slot == 5 ? 4 : slot, 9, 0));
         }
         for (int kind = -1; kind <= 4; kind++) {
             int asked = kind;
+            CursorBench bench = withCursor(LINKED, LIST, 2);
             Check.fails("open, place below", bench, NO_PLACE, () -> bench.open(0, LINKED, asked, -1));
             Check.fails("open, place above", bench, NO_PLACE, () -> bench.open(0, LINKED, asked, 4));
             Check.fails("open, place far", bench, NO_PLACE, () -> bench.open(0, LINKED, asked, Integer.MAX_VALUE));
         }
+        CursorBench bench = withCursor(LINKED, LIST, 2);
         for (int place = 1; place <= 3; place++) {
             int asked = place;
             Check.fails("FORTH from within", bench, BAD, () -> bench.open(0, ARRAY, FORTH, asked));
@@ -105,9 +89,9 @@ public final class CursorsTest {
     }
 
     private static void promise11To14() {
-        CursorBench bench = filled(2);
         for (int slot = 0; slot < Shown.SLOTS; slot++) {
             int here = slot;
+            CursorBench bench = filled(2);
             Check.still("isOpen", bench, false, () -> bench.isOpen(here));
             Check.still("close none", bench, false, () -> bench.close(here));
             bench.open(slot, DEQUE, BACK, 0);
@@ -119,20 +103,18 @@ public final class CursorsTest {
             Check.due("closed", bench.isOpen(slot), false);
             Check.due("close closes one slot", bench.isOpen((slot + 1) % 5), true);
             Check.due("close again", bench.close(slot), false);
-            bench.close((slot + 1) % 5);
         }
     }
 
     private static void promise15And16() {
-        CursorBench bench = filled(3);
         for (int row = 0; row < Shown.ROWS; row++) {
             for (int kind = LIST; kind <= BACK; kind++) {
                 if (isKind(row, kind)) {
-                    goOver(bench, row, kind);
+                    goOver(filled(3), row, kind);
                 }
             }
         }
-        bench.clear(DEQUE);
+        CursorBench bench = new CursorBench();
         bench.open(0, DEQUE, BACK, 0);
         Check.still("hasNext of none", bench, false, () -> bench.hasNext(0));
         Check.still("next of none", bench, NO_ELEMENT, () -> bench.next(0));
@@ -151,31 +133,42 @@ public final class CursorsTest {
     private static void promise17To20() {
         for (int row = ARRAY; row <= LINKED; row++) {
             for (int kind = LIST; kind <= VIEW; kind++) {
-                CursorBench bench = filled(3);
-                bench.open(1, row, kind, 3);
+                CursorBench bench = withCursor(row, kind, 3);
                 for (int place = 3; place > 0; place--) {
-                    Check.still("hasPrevious", bench, 1, () -> bench.hasPrevious(1));
-                    Check.still("nextPlace", bench, place, () -> bench.nextPlace(1));
-                    Check.still("previousPlace", bench, place - 1, () -> bench.previousPlace(1));
-                    Check.due("previous", bench.previous(1), 10 * place);
+                    Check.still("hasPrevious", bench, 1, () -> bench.hasPrevious(0));
+                    Check.still("nextPlace", bench, place, () -> bench.nextPlace(0));
+                    Check.still("previousPlace", bench, place - 1, () -> bench.previousPlace(0));
+                    Check.due("previous", bench.previous(0), 10 * place);
                 }
-                Check.still("hasPrevious at the front", bench, 0, () -> bench.hasPrevious(1));
-                Check.still("previous at the front", bench, NO_ELEMENT, () -> bench.previous(1));
-                Check.still("nextPlace at the front", bench, 0, () -> bench.nextPlace(1));
-                Check.still("previousPlace at the front", bench, CursorBench.NONE, () -> bench.previousPlace(1));
-                Check.due("on again", bench.next(1), 10);
-                Check.due("back again", bench.previous(1), 10);
+                atTheFront(row, kind);
             }
         }
     }
 
+    private static void atTheFront(int row, int kind) {
+        CursorBench bench = withCursor(row, kind, 3);
+        for (int place = 3; place > 0; place--) {
+            bench.previous(0);
+        }
+        Check.still("hasPrevious at the front", bench, 0, () -> bench.hasPrevious(0));
+        Check.still("previous at the front", bench, NO_ELEMENT, () -> bench.previous(0));
+        Check.still("nextPlace at the front", bench, 0, () -> bench.nextPlace(0));
+        Check.still("previousPlace at the front", bench, NONE, () -> bench.previousPlace(0));
+        Check.due("on again", bench.next(0), 10);
+        Check.due("back again", bench.previous(0), 10);
+    }
+
     private static void oneWayIsUnsupported() {
-        CursorBench bench = filled(40);
-        int[][] places = {{ARRAY, FORTH}, {LINKED, FORTH}, {SORTED, FORTH}, {DEQUE, FORTH}, {LINKED, BACK}, {DEQUE, BACK}};
+        int[][] places = {{ARRAY, FORTH}, {LINKED, FORTH}, {SORTED, FORTH}, {DEQUE, FORTH}, {LINKED, BACK},
+            {DEQUE, BACK}};
         for (int[] place : places) {
-            bench.open(0, place[0], place[1], 0);
-            bench.open(1, place[0], FORTH, 0);
             for (int went = 0; went < 2; went++) {
+                CursorBench bench = filled(40);
+                bench.open(0, place[0], place[1], 0);
+                bench.open(1, place[0], FORTH, 0);
+                for (int move = 0; move < went; move++) {
+                    bench.next(0);
+                }
                 Check.still("hasPrevious", bench, UNSUPPORTED, () -> bench.hasPrevious(0));
                 Check.still("previous", bench, UNSUPPORTED, () -> bench.previous(0));
                 Check.still("nextPlace", bench, UNSUPPORTED, () -> bench.nextPlace(0));
@@ -184,10 +177,8 @@ public final class CursorsTest {
                 Check.still("insert into 40", bench, UNSUPPORTED, () -> bench.insert(0, 1));
                 Check.fails("replace, bad", bench, BAD, () -> bench.replace(0, 1000));
                 Check.fails("insert, bad", bench, BAD, () -> bench.insert(0, -1000));
-                bench.next(0);
+                Check.due("a refused call leaves what was told", bench.remove(0), went == 0 ? NO_STATE : 39);
             }
-            Check.due("a refused call leaves what was told", bench.remove(0), 39);
-            bench.append(place[0], 999);
         }
     }
 
@@ -367,32 +358,29 @@ public final class CursorsTest {
     }
 
     private static void noSuchSlot() {
-        CursorBench bench = filled(3);
-        bench.open(0, ARRAY, LIST, 1);
         for (int slot : NO_SLOTS) {
+            CursorBench bench = withCursor(ARRAY, LIST, 1);
             Check.fails("close", bench, NO_PLACE, () -> bench.close(slot));
             Check.fails("isOpen", bench, NO_PLACE, () -> bench.isOpen(slot));
             Check.fails("replace", bench, NO_PLACE, () -> bench.replace(slot, 1000));
             Check.fails("insert", bench, NO_PLACE, () -> bench.insert(slot, 1000));
-            failsAsSlot(bench, slot, NO_PLACE);
+            failsAsSlot(withCursor(ARRAY, LIST, 1), slot, NO_PLACE);
         }
     }
 
     private static void emptySlot() {
-        CursorBench bench = filled(3);
-        bench.open(1, ARRAY, LIST, 1);
-        for (int slot = 0; slot < Shown.SLOTS; slot++) {
+        for (int slot = 1; slot < Shown.SLOTS; slot++) {
             int here = slot;
-            if (slot != 1) {
-                failsAsSlot(bench, slot, STATE);
-                Check.fails("replace", bench, STATE, () -> bench.replace(here, 999));
-                Check.fails("insert", bench, STATE, () -> bench.insert(here, -999));
-                Check.fails("replace, bad", bench, BAD, () -> bench.replace(here, 1000));
-                Check.fails("insert, bad", bench, BAD, () -> bench.insert(here, -1000));
-            }
+            CursorBench bench = withCursor(ARRAY, LIST, 1);
+            Check.fails("replace", bench, STATE, () -> bench.replace(here, 999));
+            Check.fails("insert", bench, STATE, () -> bench.insert(here, -999));
+            Check.fails("replace, bad", bench, BAD, () -> bench.replace(here, 1000));
+            Check.fails("insert, bad", bench, BAD, () -> bench.insert(here, -1000));
+            failsAsSlot(withCursor(ARRAY, LIST, 1), slot, STATE);
         }
+        CursorBench bench = withCursor(ARRAY, LIST, 1);
         bench.clear(ARRAY);
-        failsAsSlot(bench, 1, STATE);
+        failsAsSlot(bench, 0, STATE);
     }
 
     private static void failsAsSlot(CursorBench bench, int slot, Class<? extends RuntimeException> want) {

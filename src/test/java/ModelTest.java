@@ -158,7 +158,8 @@ public final class ModelTest {
         int number = value();
         switch (pick(3)) {
             case 0: both(what + " remove", () -> bench.remove(slot), () -> model.remove(slot)); break;
-            case 1: both(what + " replace", () -> bench.replace(slot, number), () -> model.replace(slot, number)); break;
+            case 1: both(what + " replace", () -> bench.replace(slot, number),
+                    () -> model.replace(slot, number)); break;
             default: both(what + " insert", () -> bench.insert(slot, number), () -> model.insert(slot, number)); break;
         }
     }

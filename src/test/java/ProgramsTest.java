@@ -1,17 +1,5 @@
 /** Promises 30 to 36: the text, its errors, and playing it. */
-public final class ProgramsTest {
-    private static final Class<IndexOutOfBoundsException> NO_PLACE = IndexOutOfBoundsException.class;
-    private static final Class<IllegalArgumentException> BAD = IllegalArgumentException.class;
-    private static final Class<IllegalStateException> STATE = IllegalStateException.class;
-    private static final int ARRAY = CursorBench.ARRAY;
-    private static final int LINKED = CursorBench.LINKED;
-    private static final int SORTED = CursorBench.SORTED;
-    private static final int DEQUE = CursorBench.DEQUE;
-    private static final int LIST = CursorBench.LIST;
-    private static final int VIEW = CursorBench.VIEW;
-    private static final int FORTH = CursorBench.FORTH;
-    private static final int BACK = CursorBench.BACK;
-
+public final class ProgramsTest extends Names {
     public static void main(String[] args) {
         promise30();
         promise31And32();
@@ -47,7 +35,7 @@ public final class ProgramsTest {
     }
 
     private static void right(String text) {
-        error(text, 0, CursorBench.NONE);
+        error(text, 0, NONE);
     }
 
     private static void promise30() {
@@ -100,7 +88,7 @@ public final class ProgramsTest {
             Check.due("example", bench.example(which), lengths[which]);
             Check.due("its length", bench.textLength(), lengths[which]);
             Check.due("it is right", bench.errorKind(), 0);
-            Check.due("it is right", bench.errorPlace(), CursorBench.NONE);
+            Check.due("it is right", bench.errorPlace(), NONE);
         }
         playExamples();
         Check.fails("example below", bench, BAD, () -> bench.example(-1));
@@ -238,10 +226,10 @@ public final class ProgramsTest {
         Check.due("the bracket is gone", bench.errorPlace(), 4);
         bench.example(0);
         bench.example(1);
-        Check.due("the longer example is gone", bench.errorPlace(), CursorBench.NONE);
+        Check.due("the longer example is gone", bench.errorPlace(), NONE);
         bench.clearText();
         bench.type(' ');
-        Check.due("all is gone", bench.errorPlace(), CursorBench.NONE);
+        Check.due("all is gone", bench.errorPlace(), NONE);
         bench.fill(LINKED, 1, 1, 1);
         bench.open(0, LINKED, LIST, 0);
         write(bench, "np".repeat(50));
@@ -250,9 +238,8 @@ public final class ProgramsTest {
 
     /** Of all bytes, just those of the grammar can begin a program of one byte. */
     private static void everyByte() {
-        CursorBench bench = new CursorBench();
         for (int sign = 1; sign <= 255; sign++) {
-            bench.clearText();
+            CursorBench bench = new CursorBench();
             bench.type(sign);
             boolean isRight = sign == ' ' || sign == 'n' || sign == 'p' || sign == 'r';
             boolean isShort = sign == 's' || sign == 'a' || sign >= '0' && sign <= '9';
@@ -390,7 +377,7 @@ public final class ProgramsTest {
         Check.due("the other is gone", Shown.standing(bench), "1 2 3");
         write(bench, "pr");
         bench.play(2);
-        Check.due("what was told in a text", bench.remove(2), CursorBench.NO_STATE);
+        Check.due("what was told in a text", bench.remove(2), NO_STATE);
         write(bench, "n");
         bench.play(2);
         Check.due("what was told in a text stays told", bench.remove(2), 4);

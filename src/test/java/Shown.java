@@ -11,6 +11,20 @@ final class Shown {
         for (int row = 0; row < ROWS; row++) {
             shown.append(row(bench, row)).append(' ');
         }
+        return shown.append(slotsAndText(bench)).toString();
+    }
+
+    /** The same in fewer calls, with a digest of each row in place of its numbers. */
+    static String brief(CursorBench bench) {
+        StringBuilder shown = new StringBuilder();
+        for (int row = 0; row < ROWS; row++) {
+            shown.append(bench.size(row)).append(':').append(bench.digest(row)).append(' ');
+        }
+        return shown.append(slotsAndText(bench)).toString();
+    }
+
+    private static String slotsAndText(CursorBench bench) {
+        StringBuilder shown = new StringBuilder();
         for (int slot = 0; slot < SLOTS; slot++) {
             shown.append(slot(bench, slot)).append(' ');
         }
@@ -20,8 +34,9 @@ final class Shown {
 
     /** The numbers of a row, such as "[1, -5]". */
     static String row(CursorBench bench, int row) {
+        int size = bench.size(row);
         StringBuilder shown = new StringBuilder("[");
-        for (int place = 0; place < bench.size(row); place++) {
+        for (int place = 0; place < size; place++) {
             shown.append(place == 0 ? "" : ", ").append(bench.at(row, place));
         }
         return shown.append(']').toString();

@@ -1,18 +1,5 @@
 /** Promises 25 to 29 and 37 to 39: what is done to whole rows, and told of the whole bench. */
-public final class WholeRowsTest {
-    private static final Class<IndexOutOfBoundsException> NO_PLACE = IndexOutOfBoundsException.class;
-    private static final Class<IllegalArgumentException> BAD = IllegalArgumentException.class;
-    private static final Class<IllegalStateException> STATE = IllegalStateException.class;
-    private static final int[] NO_ROWS = {-1, 4, Integer.MIN_VALUE, Integer.MAX_VALUE};
-    private static final int ARRAY = CursorBench.ARRAY;
-    private static final int LINKED = CursorBench.LINKED;
-    private static final int SORTED = CursorBench.SORTED;
-    private static final int DEQUE = CursorBench.DEQUE;
-    private static final int LIST = CursorBench.LIST;
-    private static final int VIEW = CursorBench.VIEW;
-    private static final int FORTH = CursorBench.FORTH;
-    private static final int BACK = CursorBench.BACK;
-
+public final class WholeRowsTest extends Names {
     public static void main(String[] args) {
         promise25();
         promise25Refused();
@@ -63,9 +50,9 @@ public final class WholeRowsTest {
     }
 
     private static void promise25Refused() {
-        CursorBench bench = new CursorBench();
         for (int row = 0; row < Shown.ROWS; row++) {
             int here = row;
+            CursorBench bench = new CursorBench();
             bench.fill(row, -5, 1, 11);
             bench.open(row, row, FORTH, 0);
             Check.fails("modulus 0", bench, BAD, () -> bench.sieve(here, 0, 0));
@@ -74,6 +61,7 @@ public final class WholeRowsTest {
             Check.fails("rest below", bench, BAD, () -> bench.sieve(here, 1, -1));
             Check.fails("rest above", bench, BAD, () -> bench.sieve(here, 100, 100));
         }
+        CursorBench bench = new CursorBench();
         for (int row : NO_ROWS) {
             Check.fails("sieve, no row", bench, NO_PLACE, () -> bench.sieve(row, 0, -1));
         }
@@ -227,26 +215,28 @@ public final class WholeRowsTest {
         Check.fails("to the second", bench, BAD, () -> bench.merge(ARRAY, LINKED, LINKED));
         Check.fails("to both", bench, BAD, () -> bench.merge(DEQUE, DEQUE, DEQUE));
         for (int row : NO_ROWS) {
-            Check.fails("merge, no row", bench, NO_PLACE, () -> bench.merge(row, LINKED, LINKED));
-            Check.fails("merge, no other", bench, NO_PLACE, () -> bench.merge(LINKED, row, SORTED));
-            Check.fails("merge, no third", bench, NO_PLACE, () -> bench.merge(LINKED, LINKED, row));
+            CursorBench other = new CursorBench();
+            Check.fails("merge, no row", other, NO_PLACE, () -> other.merge(row, LINKED, LINKED));
+            Check.fails("merge, no other", other, NO_PLACE, () -> other.merge(LINKED, row, SORTED));
+            Check.fails("merge, no third", other, NO_PLACE, () -> other.merge(LINKED, LINKED, row));
         }
     }
 
     private static void promise37() {
-        CursorBench bench = new CursorBench();
         for (int many = 0; many <= 40; many += 20) {
             for (int row = 0; row < Shown.ROWS; row++) {
                 int here = row;
+                CursorBench bench = new CursorBench();
                 bench.fill(row, -50, 3, many);
                 for (int slot = 0; slot < Shown.SLOTS; slot++) {
                     bench.open(slot, row, FORTH, 0);
                     bench.next(slot);
                 }
                 Check.still("errors", bench, 0, () -> bench.errors(here));
-                Check.due("what was told stays told", bench.remove(2), many == 0 ? CursorBench.NO_STATE : many - 1);
+                Check.due("what was told stays told", bench.remove(2), many == 0 ? NO_STATE : many - 1);
             }
         }
+        CursorBench bench = new CursorBench();
         put(bench, LINKED, 4, 4, 1, 4);
         Check.still("errors with the same numbers", bench, 0, () -> bench.errors(LINKED));
         Check.due("errors fills no slot", bench.openShare() < 0.9f, true);
@@ -256,9 +246,9 @@ public final class WholeRowsTest {
     }
 
     private static void promise38() {
-        CursorBench bench = new CursorBench();
         for (int row = 0; row < Shown.ROWS; row++) {
             int here = row;
+            CursorBench bench = new CursorBench();
             Check.still("mean of none", bench, 0.0, () -> bench.meanValue(here));
             put(bench, row, 1, 2, 4);
             bench.open(0, row, FORTH, 0);
@@ -268,6 +258,7 @@ public final class WholeRowsTest {
             put(bench, row, -1, 1);
             Check.still("mean 0", bench, 0.0, () -> bench.meanValue(here));
         }
+        CursorBench bench = new CursorBench();
         for (int row : NO_ROWS) {
             Check.fails("meanValue, no row", bench, NO_PLACE, () -> bench.meanValue(row));
         }
