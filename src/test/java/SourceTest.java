@@ -6,7 +6,7 @@ import java.util.List;
 import java.util.regex.Matcher;
 import java.util.regex.Pattern;
 
-/** What LANGUAGE.md rules out and a look at the program's lines can find. Runs in the project's folder. */
+/** What LANGUAGE.md rules out, or the program does without, as its lines show. Runs in the project's folder. */
 public final class SourceTest {
     private static final int LONGEST_METHOD = 60;
     private static final String[] RULED_OUT = {"->", "::", "\\btry\\b", "\\bcatch\\b", "\\bfinally\\b", "\\bassert\\b",
