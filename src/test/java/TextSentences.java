@@ -137,6 +137,9 @@ final class TextSentences extends Names {
             error("s+5", 1, 1);
             error("s5-", 1, 2);
             error("s5-5", 1, 2);
+            // All digits that stand side by side are one number: no times are left over for a bracket.
+            error("s55(n)", 1, 3);
+            error("a-12()", 1, 4);
             error("s-n", 1, 2);
             error("s-(", 1, 2);
             error("s/", 1, 1);
